@@ -504,9 +504,10 @@ public final class Orderbench {
     // ---- what is told of a bench by an order
 
     private static boolean liesSorted(Row row, Shape shape) {
-        if (!takes(row, shape)) {
-            return false;
-        }
+        return takes(row, shape) && isAscending(row, shape);
+    }
+
+    private static boolean isAscending(Row row, Shape shape) {
         for (int place = 1; place < row.many; place++) {
             if (shape.tell(row.at(place), row.at(place - 1), 0) < 0) {
                 return false;
@@ -580,7 +581,7 @@ public final class Orderbench {
     private boolean sortsWell(Row row, Shape shape) {
         copied.become(row);
         copied.arrange(shape);
-        if (!liesSorted(copied, shape) || !copied.holdsAllOf(row)) {
+        if (!isAscending(copied, shape) || !copied.holdsAllOf(row)) {
             return false;
         }
         copiedToo.become(copied);
@@ -663,7 +664,7 @@ public final class Orderbench {
         }
 
         int at(int place) {
-            return has(place) ? codes[place] : NOTHING;
+            return place >= 0 && place < many && place < codes.length ? codes[place] : NOTHING;
         }
 
         void add(int code) {
@@ -711,8 +712,8 @@ public final class Orderbench {
 
         int howOften(int code) {
             int often = 0;
-            for (int place = 0; place < many; place++) {
-                if (at(place) == code) {
+            for (int place = 0; place < many && place < codes.length; place++) {
+                if (codes[place] == code) {
                     often++;
                 }
             }

@@ -38,6 +38,8 @@ public final class AllTest {
         x.knock();
         x.fill(1, 8, 0, 1);
         house(x, 11, 10, 2, 0, 1, 2);
+        x.ends(0, -1, false);
+        house(x, 11, 10, 3, 0, 1, 2);
         for (int wrong : new int[] {-1, 6, Integer.MIN_VALUE, Integer.MAX_VALUE}) {
             check.thrown("house " + wrong, Check.NO_ARGUMENT, x, () -> x.house(wrong));
         }
@@ -152,6 +154,8 @@ public final class AllTest {
         digest("things", x);
         x.sort(0, 0);
         digest("sorted", x);
+        Check.lay(x, 1, "5a 5b 2a 5c 9a 9b");
+        digest("unlike numbers of least and greatest ones", x);
         x.layNothing(1);
         digest("a nothing", x);
         Check.make(x, 1, "l[");
@@ -159,7 +163,7 @@ public final class AllTest {
         digest("shapes", x);
         x.knock();
         digest("knocked", x);
-        x.fill(1, 15, 5, 9);
+        x.fill(1, 9, 5, 9);
         digest("filled", x);
     }
 

@@ -151,6 +151,11 @@ public final class AskedOfBenchesTest {
         check.asked("a nothing first", 1, x, () -> x.least(0, 7));
         Check.make(x, 8, "w]");
         check.asked("a nothing last", 3, x, () -> x.least(0, 8));
+        for (String one : "0a 9f 3b".split(" ")) {
+            Orderbench alone = with(one, "t");
+            check.asked("one alone", 1, alone, () -> alone.least(0, 3));
+            check.asked("one alone, by weight", 1, alone, () -> alone.least(0, 0));
+        }
         check.refused("of an empty bench", x, () -> x.least(1, 3));
         check.refused("of an empty bench, safe", x, () -> x.least(1, 7));
         x.layNothing(1);
@@ -174,6 +179,11 @@ public final class AskedOfBenchesTest {
         check.asked("a nothing first", 2, x, () -> x.greatest(0, 7));
         Check.make(x, 8, "w]");
         check.asked("a nothing last", 1, x, () -> x.greatest(0, 8));
+        for (String one : "0a 9f 3b".split(" ")) {
+            Orderbench alone = with(one, "t");
+            check.asked("one alone", 1, alone, () -> alone.greatest(0, 3));
+            check.asked("one alone, by weight", 1, alone, () -> alone.greatest(0, 0));
+        }
         check.refused("of an empty bench", x, () -> x.greatest(1, 3));
         check.refused("of an empty bench, safe", x, () -> x.greatest(1, 7));
         x.layNothing(1);

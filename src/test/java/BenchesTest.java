@@ -5,6 +5,7 @@ public final class BenchesTest {
     public static void main(String[] args) {
         promise1ANewObject();
         promise2Lay();
+        promise2LayTellsEachThingApart();
         promise3LayNothing();
         promise4Fill();
         promise4FillAtItsEdges();
@@ -61,6 +62,19 @@ public final class BenchesTest {
         check.due("a number is not used again", 18, x.lay(0, 1, 2));
         x.clear(0);
         check.due("nor after clear", 19, x.lay(0, 1, 2));
+    }
+
+    private static void promise2LayTellsEachThingApart() {
+        for (int weight = 0; weight < 10; weight++) {
+            for (int letter = 0; letter < 6; letter++) {
+                Orderbench x = Check.fresh();
+                x.lay(0, weight, letter);
+                x.lay(0, weight, letter);
+                char sign = (char) ('a' + letter);
+                check.due("its text", weight + "" + sign + "#0 " + weight + sign + "#1", x.text(0));
+                check.due("no nothings", 0, x.nothings(0));
+            }
+        }
     }
 
     private static void promise3LayNothing() {
