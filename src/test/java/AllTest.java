@@ -95,7 +95,7 @@ public final class AllTest {
         Check.make(x, 7, "l".concat("[~".repeat(19)));
         x.ends(8, -1, false);
         Check.make(x, 9, "p][~");
-        for (int k = 0; k < 40; k++) {
+        for (int k = 0; k < 25; k++) {
             x.clear(k % 2);
             x.fill(k % 2, k % 17, k * 7 % 100, k * 13 % 100);
             x.base(0, k % 7);
@@ -148,23 +148,21 @@ public final class AllTest {
     }
 
     private static void promise38Digest() {
-        Orderbench x = Check.fresh();
-        digest("a new one", x);
-        Check.lay(x, 0, "3b 1a 9f");
+        digest("a new one", Check.fresh());
+        Orderbench x = Check.laid("3b 1a 9f");
         digest("things", x);
         x.sort(0, 0);
         digest("sorted", x);
-        Check.lay(x, 1, "5a 5b 2a 5c 9a 9b");
-        digest("unlike numbers of least and greatest ones", x);
-        x.layNothing(1);
-        digest("a nothing", x);
-        Check.make(x, 1, "l[");
-        x.together(9, 0, 1);
-        digest("shapes", x);
-        x.knock();
-        digest("knocked", x);
-        x.fill(1, 9, 5, 9);
-        digest("filled", x);
+        Orderbench y = Check.lay(Check.laid("3b 1a 9f"), 1, "5a 5b 2a 5c 9a 9b");
+        digest("unlike numbers of least and greatest ones", y);
+        y.layNothing(1);
+        digest("a nothing", y);
+        Orderbench z = Check.lay(Check.with("3b 1a 9f", "l["), 1, "5a 5b 2a -");
+        z.together(9, 0, 3);
+        digest("shapes", z);
+        z.knock();
+        z.fill(1, 9, 5, 9);
+        digest("knocked and filled", z);
     }
 
     private static void promise38DigestCountsNothing() {

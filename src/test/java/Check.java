@@ -1,10 +1,18 @@
-import java.util.Arrays;
 import java.util.Objects;
 
 /** Counts and prints the answers that are not the due ones; a test's main ends with finish(). */
 final class Check {
     interface Call {
         Object answer();
+    }
+
+    interface Maker {
+        Orderbench make();
+    }
+
+    /** A call of which one argument is still open. */
+    interface Given {
+        Object answer(Orderbench bench, int argument);
     }
 
     static final Class<?> NO_INDEX = IndexOutOfBoundsException.class;
@@ -22,12 +30,22 @@ final class Check {
 
     private int made;
     private int wrong;
+    private String where = "";
+
+    /** What is printed ahead of each wrong answer from now on. */
+    void at(String place) {
+        where = place;
+    }
+
+    int made() {
+        return made;
+    }
 
     void due(String call, Object want, Object got) {
         made++;
         if (!Objects.equals(want, got)) {
             wrong++;
-            System.out.println(call + " answered " + got + ", due is " + want);
+            System.out.println(where + call + " answered " + got + ", due is " + want);
         }
     }
 
@@ -46,11 +64,44 @@ final class Check {
 
     /** The call is REFUSED, and nothing but house() 3 changes by it. */
     void refused(String call, Orderbench bench, Call toMake) {
-        String before = stateButRefusals(bench);
+        String texts = bench.text(0) + "|" + bench.text(1);
         int refusals = bench.house(3);
+        long digest = bench.digest();
         due(call, -9, toMake.answer());
         due(call + " counts as refused", refusals + 1, bench.house(3));
-        due(call + " changes nothing else", before, stateButRefusals(bench));
+        due(call + " changes no bench", texts, bench.text(0) + "|" + bench.text(1));
+        long grown = DigestLayout.of(bench).weightOfHouse(3);
+        due(call + " changes house(3) alone in the digest", digest + grown, bench.digest());
+    }
+
+    /** REFUSED or another answer, as it is due; but for a count of REFUSED nothing changes. */
+    void answers(String call, Object want, Orderbench bench, Call toMake) {
+        if (want.equals(-9)) {
+            refused(call, bench, toMake);
+        } else {
+            asked(call, want, bench, toMake);
+        }
+    }
+
+    /** The least and the greatest argument are taken; the first ones beyond, and the farthest ones, throw. */
+    void bounds(String call, int least, Object atLeast, int greatest, Object atGreatest, Class<?> beyond,
+            Maker maker, Given given) {
+        taken(call, least, atLeast, maker, given);
+        taken(call, greatest, atGreatest, maker, given);
+        for (int argument : new int[] {least - 1, greatest + 1, Integer.MIN_VALUE, Integer.MAX_VALUE}) {
+            Orderbench bench = maker.make();
+            thrown(call + " " + argument, beyond, bench, () -> given.answer(bench, argument));
+        }
+    }
+
+    void taken(String call, int argument, Object want, Maker maker, Given given) {
+        Object got;
+        try {
+            got = given.answer(maker.make(), argument);
+        } catch (RuntimeException e) {
+            got = e.getClass();
+        }
+        due(call + " " + argument, want, got);
     }
 
     /** The call changes nothing that can be seen. */
@@ -67,20 +118,9 @@ final class Check {
         }
     }
 
+    /** All that can be seen of it, in few calls: an object is used for no more than 512. */
     static String state(Orderbench bench) {
-        return stateButRefusals(bench) + " " + bench.house(3) + " " + bench.digest();
-    }
-
-    private static String stateButRefusals(Orderbench bench) {
-        StringBuilder told = new StringBuilder();
-        for (int b = 0; b < 2; b++) {
-            told.append(bench.size(b)).append(": ").append(bench.text(b)).append('\n');
-        }
-        for (int o = 0; o < 10; o++) {
-            told.append(bench.shape(o)).append(' ').append(bench.isSafe(o)).append('\n');
-        }
-        int[] house = {bench.house(0), bench.house(1), bench.house(2), bench.house(4), bench.house(5)};
-        return told.append(Arrays.toString(house)).toString();
+        return bench.text(0) + "|" + bench.text(1) + "|" + bench.house(3) + "|" + bench.digest();
     }
 
     static Orderbench fresh() {
@@ -103,7 +143,10 @@ final class Check {
         return lay(fresh(), 0, texts);
     }
 
-    /** The ORDER becomes the one that these steps make: bases by their signs, "~", "[", "]" behind what they are of. */
+    /**
+     * The ORDER becomes the one that these steps make: bases by their signs, "~", "[", "]" behind what they
+     * are of, "<" and ">" for "[" and "]" without an o.
+     */
     static void make(Orderbench bench, int order, String steps) {
         for (char step : steps.toCharArray()) {
             int kind = "wlpnbdt".indexOf(step);
@@ -111,9 +154,28 @@ final class Check {
                 bench.base(order, kind);
             } else if (step == '~') {
                 bench.turn(order, order);
+            } else if (step == '<' || step == '>') {
+                bench.ends(order, -1, step == '>');
             } else {
                 bench.ends(order, order, step == ']');
             }
         }
+    }
+
+    /** These lie on the BENCH 0, and the ORDER 3 is the one that the steps make. */
+    static Orderbench with(String texts, String steps) {
+        Orderbench bench = laid(texts);
+        make(bench, 3, steps);
+        return bench;
+    }
+
+    /** The steps of an ORDER of this SIZE that is not SAFE. */
+    static String unsafeOf(int size) {
+        return "w".concat("~".repeat(size - 1));
+    }
+
+    /** The steps of an ORDER of this SIZE that is SAFE. */
+    static String safeOf(int size) {
+        return "<".concat("~".repeat(size - 1));
     }
 }
