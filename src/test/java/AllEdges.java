@@ -223,6 +223,7 @@ final class AllEdges {
         makers.add(() -> Check.lay(Check.with("- - 3b", "w["), 1, "5a 5b 2a 5c 9a 9b"));
         makers.add(() -> Check.lay(Check.with("-", ">"), 1, "3b -"));
         makers.add(AllEdges::withHouseNumbersUnlike);
+        makers.add(AllEdges::withGreatNumbers);
         makers.add(() -> {
             Orderbench x = Check.lay(Check.with(NOTHINGS_16, Check.safeOf(40)), 1, FALLING_16);
             Check.make(x, 9, Check.unsafeOf(40));
@@ -231,6 +232,21 @@ final class AllEdges {
             return x;
         });
         return makers;
+    }
+
+    /** As many calls as leave those for the numbers of the digest. */
+    private static Orderbench withGreatNumbers() {
+        Orderbench x = Check.fresh();
+        for (int k = 0; k < 130; k++) {
+            x.fill(0, 16, 90, 0);
+            x.clear(0);
+        }
+        x.fill(1, 16, 3, 7);
+        for (int k = 0; k < 65; k++) {
+            x.knock();
+            x.least(0, 0);
+        }
+        return x;
     }
 
     /** house() of 0 to 5 is 6, 8, 3, 2, 4, 1. */

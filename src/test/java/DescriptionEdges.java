@@ -481,6 +481,53 @@ final class DescriptionEdges {
         check.thrown("together, 41", Check.NO_STATE, x, () -> x.together(7, 5, 0));
     }
 
+    @Sentence(promise = 0, words = "the greatest is 40.")
+    static void aShapeOf40IsTakenByEachCall(Check check) {
+        Orderbench x = Check.with("1a 3b 3c 2d", Check.unsafeOf(40));
+        check.asked("compare", 1, x, () -> x.compare(3, 0, 0, 1));
+        check.asked("against", -1, x, () -> x.against(3, 9, 0, 0, 1));
+        check.asked("isSorted", false, x, () -> x.isSorted(0, 3));
+        check.refused("found", x, () -> x.found(0, 3, 1, 0));
+        check.due("sort", 4, x.sort(0, 3));
+        check.asked("text", "3b#1 3c#2 2d#3 1a#0", x, () -> x.text(0));
+        check.asked("isSorted then", true, x, () -> x.isSorted(0, 3));
+        check.asked("classes", 3, x, () -> x.classes(0, 3));
+        check.asked("least", 2, x, () -> x.least(0, 3));
+        check.asked("greatest", 1, x, () -> x.greatest(0, 3));
+        check.asked("found then", 1, x, () -> x.found(0, 3, 2, 0));
+        check.asked("room", 4, x, () -> x.room(0, 3, 0, 0));
+        check.asked("alikeTo", 2, x, () -> x.alikeTo(0, 3, 1));
+        check.asked("aheadOf", 3, x, () -> x.aheadOf(0, 3, 3));
+        check.asked("isPreorder", true, x, () -> x.isPreorder(3, 0));
+        check.asked("isTwice", true, x, () -> x.isTwice(0, 3, 3));
+        x.turn(4, 0);
+        check.asked("tellAlike", true, x, () -> x.tellAlike(3, 4, 0));
+    }
+
+    @Sentence(promise = 0, words = "the greatest is 40.")
+    static void aSafeShapeOf40IsTakenByEachCall(Check check) {
+        Orderbench x = Check.with("- 3b - 2d", Check.safeOf(40));
+        check.asked("compare", 1, x, () -> x.compare(3, 0, 0, 1));
+        check.asked("against", -1, x, () -> x.against(3, 9, 0, 0, 0));
+        check.asked("isSorted", false, x, () -> x.isSorted(0, 3));
+        check.refused("room", x, () -> x.room(0, 3, 1, 0));
+        check.due("sort", 3, x.sort(0, 3));
+        check.asked("text", "3b#0 2d#1 - -", x, () -> x.text(0));
+        check.asked("isSorted then", true, x, () -> x.isSorted(0, 3));
+        check.asked("classes", 2, x, () -> x.classes(0, 3));
+        check.asked("found", 1, x, () -> x.found(0, 3, 9, 0));
+        check.asked("room then", -1, x, () -> x.room(0, 3, 9, 0));
+        check.asked("aheadOf", 2, x, () -> x.aheadOf(0, 3, 3));
+        x.take(0, 0);
+        check.asked("least", 1, x, () -> x.least(0, 3));
+        check.asked("greatest", 2, x, () -> x.greatest(0, 3));
+        check.asked("alikeTo", 2, x, () -> x.alikeTo(0, 3, 2));
+        check.asked("isPreorder", true, x, () -> x.isPreorder(3, 0));
+        check.asked("isTwice", true, x, () -> x.isTwice(0, 3, 3));
+        x.ends(4, -1, true);
+        check.asked("tellAlike", true, x, () -> x.tellAlike(3, 4, 0));
+    }
+
     // ---- TAKES
 
     private static void sorts(Check check, String texts, String steps, boolean isTaken) {

@@ -18,6 +18,8 @@ import java.util.stream.Collectors;
 public final class FaceTest {
     private static final Check check = new Check();
     private static final Path DOCUMENT = Path.of("../shared/DOC.md");
+    private static final String THROWN = "IllegalStateException|IllegalArgumentException|IndexOutOfBoundsException"
+            + "|ArithmeticException|UnsupportedOperationException|NoSuchElementException|RuntimeException";
     private static final Path CLASS_FILE = Path.of("src/main/java/Orderbench.java");
 
     public static void main(String[] args) throws IOException {
@@ -82,11 +84,13 @@ public final class FaceTest {
                 others.add(method);
             }
         }
+        for (Method method : others) {
+            check.due(method + " has a name of its own", false, face.contains(method.getName()));
+        }
         for (Class<?> inside : Orderbench.class.getDeclaredClasses()) {
             others.addAll(Arrays.asList(inside.getDeclaredMethods()));
         }
         for (Method method : others) {
-            check.due(method + " has a name of its own", false, face.contains(method.getName()));
             check.due(method + " is no other's equals, hashCode or toString", false,
                     List.of("equals", "hashCode", "toString").contains(method.getName()));
             check.due(method + " has at most seven parameters", true, method.getParameterCount() <= 7);
@@ -108,9 +112,11 @@ public final class FaceTest {
     private static void forbiddenWords() throws IOException {
         String code = codeAlone(Files.readString(CLASS_FILE));
         String[] forbidden = {
-            "->", "::", "\\bimport\\b", "\\bpackage\\b", "\\bfinally\\b", "\\bsynchronized\\b", "\\bassert\\b", "\\btry\\b",
-            "\\bcatch\\b", "\\bvar\\b", "\\bSystem\\.(?!arraycopy)", "\\bRandom\\b", "\\bThread\\b", "Exact\\(",
-            "\\bHash(Map|Set)\\b", "\\bObject\\b", "@", "\" *\\+", "\\+ *\"", "\\bwhile *\\(true", "[^\\x00-\\x7f]"
+            "(?m)^(?!\\s*(case|default)\\b).*->", "::", "\\bpackage\\b", "\\bfinally\\b", "\\bsynchronized\\b",
+            "\\bassert\\b", "\\btry *\\(", "\\bSystem\\.(?!arraycopy)", "\\bRandom\\b", "\\bThread\\b", "Exact\\(",
+            "\\bHash(Map|Set)\\b", "\\bObject\\b", "@(?!Override\\b)", "\" *\\+", "\\+ *\"", "\\bwhile *\\(true",
+            "[^\\x00-\\x7f]", "\\bimport (?!java\\.util\\.(ArrayList|List|Iterator|Arrays|NoSuchElementException);)",
+            "\\bcatch *\\((?!(" + THROWN + ")\\b)", "\\bthrow (?!new (" + THROWN + ")\\((\"[^\"]*\")?\\);)"
         };
         for (String word : forbidden) {
             check.due("in the class: " + word, false, Pattern.compile(word).matcher(code).find());
