@@ -9,7 +9,7 @@ import java.util.List;
 
 /**
  * Runs each test of a boundary, and holds against the document that the words which it names stand there, and
- * that no sentence of it that tells an effect, an answer or an exception is without a test.
+ * that no line of it that tells an effect, an answer or an exception is without a test.
  */
 public final class EdgesTest {
     private static final Check check = new Check();
